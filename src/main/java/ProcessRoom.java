@@ -79,7 +79,6 @@ public final class ProcessRoom {
             return NONE;
         }
         priorities[p] = NOT_MADE;
-        places[p] = 0;
         if (p == active) {
             active = NONE;
         }
@@ -196,9 +195,7 @@ public final class ProcessRoom {
     }
 
     public int at(int row, int i) {
-        if (!isRow(row) || i < 0) {
-            return NONE;
-        }
+        // All in the line are in some row: a number that is none finds nobody.
         int before = 0;
         for (int k = 0; k < lineLength && k < PROCESSES; k++) {
             int p = line[k];
@@ -230,12 +227,6 @@ public final class ProcessRoom {
 
     private static boolean isPriority(int priority) {
         return priority >= LOWEST && priority <= HIGHEST;
-    }
-
-    // Without this test the number for 'in no row' would pass for a row.
-    private static boolean isRow(int row) {
-        return isPriority(row)
-            || row >= FIRST_SEMAPHORE_ROW && row < FIRST_SEMAPHORE_ROW + SEMAPHORES;
     }
 
     private boolean isMade(int p) {

@@ -16,6 +16,7 @@ public final class ProcessRoomPromises {
         resume();
         resumeRefused();
         suspend();
+        suspendGoesDownThePriorities();
         end();
         endOfTheOneThatIsNotActive();
         await();
@@ -207,6 +208,23 @@ public final class ProcessRoomPromises {
         ProcessRoom y = new ProcessRoom();
         due("suspend() in a new room", y.suspend(), NONE);
         no("wanted()", y.wanted());
+    }
+
+    private static void suspendGoesDownThePriorities() {
+        promise = 4;
+        ProcessRoom x = new ProcessRoom();
+        x.make(0, 8, 0);
+        x.resume(0);
+        for (int p = 1; p <= 16; p++) {
+            x.make(p, 1 + (p - 1) % 8, 0);
+            x.resume(p);
+        }
+        due("suspend()", x.suspend(), 0);
+        for (int priority = 8; priority >= 1; priority--) {
+            due("suspend()", x.suspend(), priority);
+            due("suspend()", x.suspend(), priority + 8);
+        }
+        due("suspend() with none", x.suspend(), NONE);
     }
 
     private static void end() {
